@@ -1017,15 +1017,6 @@ public final class TongueBook {
       return false;
     }
 
-    boolean hasFallingRule() {
-      for (int r = 0; r < ruleCount; r++) {
-        if (rules[r].becomes == Rule.FALLS) {
-          return true;
-        }
-      }
-      return false;
-    }
-
     int lengthsOf(int noteBits) {
       int sum = 0;
       for (int n = 0; n < noteCount; n++) {
@@ -1301,11 +1292,14 @@ public final class TongueBook {
   private static final class Hearing {
     static final int DEEPEST = 3;
     static final int NOTE_BITS = 4;
+    static final int FALL = 1 << Rule.FALLS;
 
     final int[] row = new int[ELEMENTS];
     int size;
     final int[] found = new int[DEEPEST];
     int foundCount;
+    /** For each SOUND: places of the CARD, as bits, that it could be heard at, and FALL. */
+    final int[] chances = new int[SOUNDS];
 
     void takeRow(Shelf shelf) {
       size = shelf.size;
@@ -1342,12 +1336,10 @@ public final class TongueBook {
     }
 
     void findDeep(Book book, Sounds sounds) {
-      boolean shortens = book.hasFallingRule();
+      findChances(book, sounds);
       for (int many = 1; many <= DEEPEST; many++) {
         for (int way = 0; way < 1 << NOTE_BITS * many; way++) {
-          // RULES never lengthen a row, and only a falling SOUND shortens it.
-          if (isSpelled(book, way, many)
-              && (size == sounds.size || shortens && size > sounds.size)) {
+          if (isSpelled(book, way, many) && hasChance(sounds.size)) {
             hear(book);
             if (isRowLike(sounds)) {
               foundCount = many;
@@ -1373,6 +1365,43 @@ public final class TongueBook {
         size += spoken.size;
       }
       return true;
+    }
+
+    private void findChances(Book book, Sounds sounds) {
+      for (int sound = 0; sound < SOUNDS; sound++) {
+        int outcomes = outcomesOf(sound, book);
+        chances[sound] = outcomes & FALL;
+        for (int place = 0; place < sounds.size; place++) {
+          if ((outcomes >> sounds.at[place] & 1) == 1) {
+            chances[sound] |= 1 << place;
+          }
+        }
+      }
+    }
+
+    /** What RULES could make of a SOUND if each was done or not: SOUNDS, as bits, and FALL. */
+    private static int outcomesOf(int sound, Book book) {
+      int outcomes = 1 << sound;
+      for (int r = 0; r < book.ruleCount; r++) {
+        for (int one = 0; one < SOUNDS; one++) {
+          if ((outcomes >> one & 1) == 1 && Rule.agrees(book.rules[r].what, one, book.classes)) {
+            outcomes |= 1 << book.rules[r].becomes;
+          }
+        }
+      }
+      return outcomes;
+    }
+
+    /** Whether the row could be heard as the CARD, wherever RULES fit: hearing it out is dear. */
+    private boolean hasChance(int cardSize) {
+      // The places of the CARD, as bits, up to which what lies ahead in the row could be heard.
+      int reached = 1;
+      for (int i = 0; i < size; i++) {
+        int chance = chances[row[i]];
+        int fallen = (chance & FALL) != 0 ? reached : 0;
+        reached = fallen | (reached & chance) << 1;
+      }
+      return (reached >> cardSize & 1) == 1;
     }
 
     private boolean isRowLike(Sounds sounds) {
@@ -1447,7 +1476,6 @@ public final class TongueBook {
     }
 
     void findAsk(int set) {
-      asked = 0;
       leftAtWorst = ORDERS + 1;
       for (int many = 2; many <= PARTS; many++) {
         for (int number = 0; number < 1 << 2 * many; number++) {

@@ -1,6 +1,8 @@
 import java.util.ArrayList;
+import java.util.HashMap;
 import java.util.HashSet;
 import java.util.List;
+import java.util.Map;
 import java.util.Set;
 import java.util.TreeSet;
 import java.util.regex.Matcher;
@@ -300,36 +302,34 @@ final class PlainModel {
   }
 
   private Cut leastCut(int card) {
-    List<Integer> sounds = s.cards.get(card).sounds();
-    List<List<Integer>> cuts = new ArrayList<>();
-    collectCuts(sounds, 0, s.used, new ArrayList<>(), cuts);
-    List<Integer> best = null;
-    for (List<Integer> cut : cuts) {
-      if (best == null || isLess(cut, best)) {
-        best = cut;
-      }
-    }
+    List<Integer> best = leastFrom(s.cards.get(card).sounds(), s.used, new HashMap<>());
     return new Cut(costOf(best), best);
   }
 
-  private void collectCuts(List<Integer> sounds, int from, Set<Integer> used, List<Integer> ahead,
-      List<List<Integer>> cuts) {
-    if (from == sounds.size()) {
-      cuts.add(new ArrayList<>(ahead));
-      return;
+  /** The least of all cuts of what is left; what is left is cut once for all that may lie ahead. */
+  private List<Integer> leastFrom(List<Integer> sounds, Set<Integer> used,
+      Map<List<Integer>, List<Integer>> known) {
+    if (sounds.isEmpty()) {
+      return List.of();
     }
-    for (int n : used) {
-      List<Integer> spoken = s.notes.get(n).spoken();
-      int to = from + spoken.size();
-      if (to <= sounds.size() && sounds.subList(from, to).equals(spoken)) {
-        ahead.add(n);
-        collectCuts(sounds, to, used, ahead, cuts);
-        ahead.remove(ahead.size() - 1);
+    if (known.containsKey(sounds)) {
+      return known.get(sounds);
+    }
+    List<Integer> best = null;
+    List<Integer> firstParts = new ArrayList<>(used);
+    firstParts.add(100 + sounds.get(0));
+    for (int part : firstParts) {
+      List<Integer> spoken = part < 100 ? s.notes.get(part).spoken() : List.of(part - 100);
+      if (spoken.size() <= sounds.size() && sounds.subList(0, spoken.size()).equals(spoken)) {
+        List<Integer> cut = new ArrayList<>(List.of(part));
+        cut.addAll(leastFrom(sounds.subList(spoken.size(), sounds.size()), used, known));
+        if (best == null || isLess(cut, best)) {
+          best = cut;
+        }
       }
     }
-    ahead.add(100 + sounds.get(from));
-    collectCuts(sounds, from + 1, used, ahead, cuts);
-    ahead.remove(ahead.size() - 1);
+    known.put(sounds, best);
+    return best;
   }
 
   private static int costOf(List<Integer> cut) {
@@ -378,7 +378,7 @@ final class PlainModel {
       }
       int sum = used.stream().mapToInt(n -> s.notes.get(n).length()).sum();
       for (int c : countedCards()) {
-        sum += cheapest(s.cards.get(c).sounds(), used);
+        sum += costOf(leastFrom(s.cards.get(c).sounds(), used, new HashMap<>()));
       }
       if (sum < best) {
         best = sum;
@@ -386,20 +386,6 @@ final class PlainModel {
       }
     }
     return what == 0 ? best : bestSet;
-  }
-
-  private int cheapest(List<Integer> sounds, Set<Integer> used) {
-    if (sounds.isEmpty()) {
-      return 0;
-    }
-    int best = 5 + cheapest(sounds.subList(1, sounds.size()), used);
-    for (int n : used) {
-      List<Integer> spoken = s.notes.get(n).spoken();
-      if (spoken.size() <= sounds.size() && sounds.subList(0, spoken.size()).equals(spoken)) {
-        best = Math.min(best, 2 + cheapest(sounds.subList(spoken.size(), sounds.size()), used));
-      }
-    }
-    return best;
   }
 
   // ---- sound rules

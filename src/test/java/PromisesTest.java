@@ -27,6 +27,7 @@ public final class PromisesTest {
     p20Ask();
     p21Who();
     p22None();
+    p22NoneOfFirst();
     p23Reader();
     p24Neighbour();
     p25Law();
@@ -277,6 +278,7 @@ public final class PromisesTest {
     due(0, x.oneOrTwo(2, 9));
     x.takeBack(0);
     due(0, x.oneOrTwo(2, 4));
+    due(0, x.oneOrTwo(4, 2));
     due(1, x.oneOrTwo(4, 6));
     x.bar(0, true);
     due(0, x.oneOrTwo(4, 6));
@@ -290,6 +292,17 @@ public final class PromisesTest {
     due(1, x.oneOrTwo(1, 2));
     good(x, 4, 2, 1);
     due(2, x.oneOrTwo(1, 2));
+    x = start("7 oneOrTwo, the edge is no sound");
+    good(x, 1, 1);
+    good(x, 1, 2, 0);
+    due(0, x.oneOrTwo(1, 2));
+    good(x, 1, 0, 3);
+    due(0, x.oneOrTwo(1, 3));
+    good(x, 1, 0, 0, 0, 0, 0, 0, 0, 4);
+    good(x, 1, 5, 0, 0, 0, 0, 0, 0, 0);
+    due(1, x.oneOrTwo(4, 3));
+    due(1, x.oneOrTwo(5, 2));
+    due(0, x.oneOrTwo(5, 4));
     x = start("7 oneOrTwo, both in one card");
     good(x, 1, 1, 2, 1, 3, 1);
     due(1, x.oneOrTwo(2, 3));
@@ -433,6 +446,17 @@ public final class PromisesTest {
     due(2, x.cut(0, 0));
     addNote(x, 2, 1);
     due(0, x.cut(0, 1));
+    x = start("11 cut, a note does not reach behind the card");
+    good(x, 0, 1, 1, 1, 1, 1, 1, 1, 1);
+    addNote(x, 3, 1, 1, 1);
+    due(12, x.cut(0, -1));
+    due(0, x.cut(0, 0));
+    due(101, x.cut(0, 2));
+    good(x, 0, 1, 1, 1, 1, 1);
+    due(25, x.cut(1, -1));
+    addNote(x, 3, 1, 1, 1, 1);
+    due(2, x.cut(0, -1));
+    due(25, x.cut(1, -1));
     x = start("11 cut, of cards however they are");
     addCard(x, 0, 0, 0, 4);
     x.takeBack(0);
@@ -698,6 +722,19 @@ public final class PromisesTest {
     x.use(4, false);
     x.use(0, false);
     due(-4, x.deep(0, -1));
+    x = start("16 deep, sound 0");
+    good(x, 0, 0, 5);
+    good(x, 0, 5, 5);
+    addNote(x, 3, 0);
+    due(-4, x.deep(0, 0));
+    addRule(x, "0>5/._#");
+    due(0, x.deep(0, 0));
+    due(-4, x.deep(1, 0));
+    addRule(x, "C0>5/#_.");
+    due(-4, x.deep(0, 0));
+    due(0, x.deep(1, 0));
+    x.classOf(0, 1);
+    due(0, x.deep(0, 0));
     x = start("16 deep, of cards however they are");
     addCard(x, 0, 0, 0, 4);
     x.takeBack(0);
@@ -906,6 +943,28 @@ public final class PromisesTest {
     x.speaker(7, 0, 2);
     due(128, x.none(2));
     due(65, x.none(0));
+  }
+
+  private static void p22NoneOfFirst() {
+    TongueBook x = start("22 none, the first alone");
+    say(x, 0, 0, false, 2);
+    due(1, x.none(-1));
+    due(1, x.none(0));
+    due(-4, x.none(1));
+    x = start("22 none, three, the least as bits");
+    say(x, 0, 0, true, 0, 1);
+    say(x, 0, 0, true, 3, 0);
+    say(x, 0, 0, true, 2, 3);
+    say(x, 0, 0, true, 1, 2);
+    say(x, 0, 0, true, 1, 3);
+    due(19, x.none(-1));
+    x = start("22 none, four are too many");
+    say(x, 0, 0, true, 0, 1);
+    say(x, 0, 0, true, 1, 2);
+    say(x, 0, 0, true, 2, 3);
+    say(x, 0, 0, true, 3, 0);
+    due(0, x.orders(0, -1));
+    due(-4, x.none(0));
   }
 
   private static void p23Reader() {
