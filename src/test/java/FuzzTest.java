@@ -27,8 +27,9 @@ public final class FuzzTest {
 
   public static void main(String[] args) {
     int runs = args.length > 0 ? Integer.parseInt(args[0]) : 1500;
+    int first = args.length > 1 ? Integer.parseInt(args[1]) : 0;
     int wrong = 0;
-    for (int run = 0; run < runs && wrong < 5; run++) {
+    for (int run = first; run < first + runs && wrong < 5; run++) {
       wrong += new FuzzTest(run).run(run);
     }
     System.out.println(wrong == 0 ? "FuzzTest: all answers alike" : "FuzzTest: " + wrong + " runs differ");
