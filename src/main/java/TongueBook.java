@@ -2,7 +2,8 @@ import java.util.Arrays;
 
 /**
  * A tongue taken down: cards, pieces, sound rules, sayings, neighbours' words, shelves.
- * All rows are made in the constructor and used again: no call makes an object.
+ * All rows are made in the constructor and used again: no call makes an object, but for what
+ * element throws.
  */
 public final class TongueBook {
   private static final int SOUNDS = 10;
@@ -641,7 +642,7 @@ public final class TongueBook {
     int many = 0;
     for (int c = 0; c < book.cardCount; c++) {
       Card other = book.cards[c];
-      if (mine.isSameEvent(other) && (!alikeOnly || mine.sounds.isLike(other.sounds))) {
+      if (mine.isOtherHearing(other) && (!alikeOnly || mine.sounds.isLike(other.sounds))) {
         many++;
       }
     }
@@ -680,7 +681,6 @@ public final class TongueBook {
       return size == other.size && other.standsAt(0, this);
     }
 
-    /** Whether a row stands in this one from a place on. */
     boolean standsAt(int place, Sounds row) {
       if (place + row.size > size) {
         return false;
@@ -693,7 +693,6 @@ public final class TongueBook {
       return true;
     }
 
-    /** The SOUND at a place, or the edge outside. */
     int soundOrEdge(int i) {
       return i >= 0 && i < size ? at[i] : Rule.EDGE;
     }
@@ -712,13 +711,11 @@ public final class TongueBook {
       return good && standing == KEPT;
     }
 
-    /** Whether both are KEPT, of one SPEAKER in one HOUR, by two HEARERS. */
-    boolean isSameEvent(Card other) {
+    boolean isOtherHearing(Card other) {
       return standing == KEPT && other.standing == KEPT
           && speaker == other.speaker && hour == other.hour && hearer != other.hearer;
     }
 
-    /** Whether both differ at just one place, with one SOUND here and the other there. */
     boolean differsOnlyBy(Card other, int a, int b) {
       if (sounds.size != other.sounds.size) {
         return false;
@@ -1280,7 +1277,7 @@ public final class TongueBook {
     private void addCosts(Book book, Sounds sounds, int sets, int others) {
       int anywhere = findStanding(book, sounds);
       for (int set = 0; set < sets; set++) {
-        // NOTES that stand nowhere in the row cost nothing: the set without them is done already.
+        // NOTES that stand nowhere in the CARD leave its cost: the set without them is done already.
         int telling = set & anywhere;
         costs[set] = telling == set ? leastCost(sounds.size, set | others) : costs[telling];
         sums[set] += costs[set];

@@ -910,6 +910,14 @@ public final class PromisesTest {
     due(0, x.who(0, 110));
     due(1, x.who(0, 111));
     due(2, x.who(3, 0));
+    x = start("21 who, all said by one");
+    x.speaker(5, 0, 1);
+    for (int k = 0; k < 20; k++) {
+      due(k, say(x, 5, 7, true, 0, 1));
+    }
+    due(5, x.who(1, 7));
+    due(-4, x.who(1, 6));
+    due(0, x.who(0, 0));
   }
 
   private static void p22None() {
