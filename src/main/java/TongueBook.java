@@ -353,7 +353,7 @@ public final class TongueBook {
   // ---- readers, neighbours
 
   public int reader(int known, int most, int i) {
-    if (!isIn(known, 1 << NOTES) || !isIn(most, UNKNOWN_NOTES) || !isIn(i, CARDS)) {
+    if (!isIn(known, 1 << NOTES) || !isIn(most, UNKNOWN_NOTES) || i < 0) {
       return NO_SUCH;
     }
     for (int c = i; c < book.cardCount; c++) {

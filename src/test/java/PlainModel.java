@@ -679,7 +679,7 @@ final class PlainModel {
   // ---- readers, neighbours
 
   int reader(int known, int most, int i) {
-    if (known < 0 || known > 65535 || most < 0 || most > 9 || i < 0 || i > 39) {
+    if (known < 0 || known > 65535 || most < 0 || most > 9 || i < 0) {
       return -1;
     }
     for (int c : countedCards()) {

@@ -1008,7 +1008,28 @@ public final class PromisesTest {
     due(-1, x.reader(0, -1, 0));
     due(-1, x.reader(0, 10, 0));
     due(-1, x.reader(0, 0, -1));
-    due(-1, x.reader(0, 0, Integer.MAX_VALUE));
+    due(-1, x.reader(0, 0, Integer.MIN_VALUE));
+    readerFromBehind();
+  }
+
+  /** i has no range of its own: from behind the last CARD on there is none. */
+  private static void readerFromBehind() {
+    TongueBook x = start("23 reader, from behind the last card");
+    int[] behind = {0, 1, 39, 40, 41, 47, 1000, Integer.MAX_VALUE};
+    for (int i : behind) {
+      due(-4, x.reader(0, 0, i));
+      due(-1, x.reader(-1, 0, i));
+      due(-1, x.reader(0, 10, i));
+    }
+    addNote(x, 0, 1);
+    for (int k = 0; k < 40; k++) {
+      good(x, 0, 1);
+    }
+    due(39, x.reader(1, 0, 39));
+    due(-4, x.reader(1, 0, 40));
+    due(-4, x.reader(65535, 9, 47));
+    due(-4, x.reader(65535, 9, Integer.MAX_VALUE));
+    due(-1, x.reader(1, 0, -1));
   }
 
   private static void p24Neighbour() {
