@@ -1,9 +1,5 @@
 /** For each promise of the document: ordinary calls, the edges that it names, and wrong inputs. */
-public final class PromisesTest {
-  private static int wrong;
-  private static int checks;
-  private static String promise = "";
-
+public final class PromisesTest extends Bench {
   public static void main(String[] args) {
     p01NewObject();
     p02Card();
@@ -47,74 +43,12 @@ public final class PromisesTest {
     p39Copy();
     p40Length();
     p41Toss();
-    System.out.println("PromisesTest: " + checks + " checks, " + wrong + " wrong");
-    if (wrong != 0) {
-      System.exit(1);
-    }
-  }
-
-  private static void due(long want, long got) {
-    checks++;
-    if (want != got) {
-      wrong++;
-      StackTraceElement at = new Throwable().getStackTrace()[1];
-      System.out.println(promise + ", line " + at.getLineNumber() + ": answered " + got + ", due is " + want);
-    }
-  }
-
-  private static TongueBook start(String name) {
-    promise = name;
-    return new TongueBook();
-  }
-
-  private static void bytes(TongueBook x, int d, int... all) {
-    due(0, x.row(d, 0, all.length));
-    for (int i = 0; i < all.length; i++) {
-      due(0, x.put(d, i, all[i]));
-    }
-  }
-
-  private static void text(TongueBook x, int d, String signs) {
-    int[] all = new int[signs.length()];
-    for (int i = 0; i < all.length; i++) {
-      all[i] = signs.charAt(i);
-    }
-    bytes(x, d, all);
-  }
-
-  private static int addCard(TongueBook x, int meaning, int told, int hour, int... sounds) {
-    bytes(x, 7, sounds);
-    return x.card(7, meaning, told, hour);
-  }
-
-  /** A GOOD CARD of SPEAKER 0 and HEARER 0. */
-  private static int good(TongueBook x, int meaning, int... sounds) {
-    return addCard(x, meaning, 1, 0, sounds);
-  }
-
-  private static int addNote(TongueBook x, int kind, int... sounds) {
-    bytes(x, 7, sounds);
-    return x.note(7, kind);
-  }
-
-  private static int addRule(TongueBook x, String signs) {
-    text(x, 7, signs);
-    return x.rule(7);
+    end("PromisesTest");
   }
 
   private static int faultOf(TongueBook x, String signs) {
     text(x, 7, signs);
     return x.fault(7);
-  }
-
-  private static int say(TongueBook x, int speaker, int hour, boolean good, int... parts) {
-    bytes(x, 7, parts);
-    return x.said(7, speaker, hour, good);
-  }
-
-  private static int addWord(TongueBook x, int card, int... sounds) {
-    bytes(x, 7, sounds);
-    return x.neighbour(7, card);
   }
 
   /** Shelf 1 holds shorts, 2 ints, 3 a NOTE, 4 one SOUND, 5 ten, 6 nothing, 7 no SOUNDS. */
@@ -591,19 +525,6 @@ public final class PromisesTest {
     due(-2, x.rule(5));
     due(-1, x.rule(9));
     due(8, x.count(4));
-  }
-
-  private static void hears(TongueBook x, String sounds, String want) {
-    int[] all = new int[sounds.length()];
-    for (int i = 0; i < all.length; i++) {
-      all[i] = sounds.charAt(i) - '0';
-    }
-    bytes(x, 0, all);
-    due(want.length(), x.heard(0, 1));
-    for (int i = 0; i < want.length(); i++) {
-      due(want.charAt(i) - '0', x.element(1, i));
-    }
-    due(-13, x.put(1, want.length(), 0));
   }
 
   private static void p15Heard() {
