@@ -66,7 +66,7 @@ public final class FuzzTest {
       case 10 -> askRow();
       case 11 -> askVillage();
       case 12 -> shelf();
-      case 13 -> call(22, random.nextInt(1 << 6), random.nextInt(4), random.nextInt(12));
+      case 13 -> call(22, random.nextInt(1 << (small(2) == 0 ? 6 : 16)), random.nextInt(4), random.nextInt(40));
       case 14 -> askList();
       default -> rights();
     }
@@ -169,11 +169,11 @@ public final class FuzzTest {
     call(3, small(alphabet), small(4));
     call(4, small(8), 0, small(village));
     call(4, small(8), 1, small(10));
-    call(7, small(12), small(3) == 0 ? 0 : 1);
+    call(7, small(16), small(3) == 0 ? 0 : 1);
   }
 
   private void askCard() {
-    int card = small(10);
+    int card = small(small(4) == 0 ? 40 : 10);
     for (int i = -1; i < 4; i++) {
       call(9, card, i);
     }
@@ -186,7 +186,7 @@ public final class FuzzTest {
   }
 
   private void hear() {
-    bytes(5, sounds(8));
+    bytes(5, sounds(small(20) == 0 ? 40 : 8));
     call(13, 5, 6);
     for (int i = 0; i < 3; i++) {
       call(35, 6, i);
@@ -224,8 +224,8 @@ public final class FuzzTest {
 
   private void askList() {
     call(10, small(2));
-    call(8, small(8), 0);
-    call(8, small(8), 1);
+    call(8, small(16), 0);
+    call(8, small(16), 1);
     call(31, 0, small(8));
   }
 
